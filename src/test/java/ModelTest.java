@@ -2,7 +2,7 @@ import java.util.Random;
 
 /** Compares OrielChart with the Model, call by call, over runs that are the same each time. */
 public final class ModelTest {
-    private static final int RUNS = 120;
+    private static final int RUNS = 300;
     private static final int CALLS = 60;
 
     private final Random random;
