@@ -84,6 +84,11 @@ public final class DrawingTest {
         Check.same("most: bendAt of the first", most.bendAt(1, 37), 1);
         Check.same("most: bends of the last", most.bends(79 - 2), 37);
         Check.same("most: points(20)", most.points(20), 1 + 20 + 19);
+        Check.same("most: points(39)", most.points(39), 1);
+        Check.same("most: pointAt(39, 0)", most.pointAt(39, 0), 39);
+        long digest = most.digest();
+        most.wouldCross(20);
+        Check.same("most: wouldCross() changes nothing", most.digest(), digest);
     }
 
     private static void firstOrder() {

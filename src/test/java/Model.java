@@ -572,10 +572,11 @@ final class Model {
 
     private void arrange(int l, int other) {
         Map<String, long[]> means = new HashMap<>();
+        List<String[]> lines = lines(Math.min(l, other));
         for (String point : orders.get(l)) {
             long sum = 0;
             long count = 0;
-            for (String[] line : lines(Math.min(l, other))) {
+            for (String[] line : lines) {
                 String mine = l < other ? line[0] : line[1];
                 String there = l < other ? line[1] : line[0];
                 if (mine.equals(point)) {

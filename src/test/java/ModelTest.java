@@ -2,17 +2,20 @@ import java.util.Random;
 
 /** Compares OrielChart with the Model, call by call, over runs that are the same each time. */
 public final class ModelTest {
-    private static final int RUNS = 300;
+    private static final int RUNS = 200;
     private static final int CALLS = 60;
 
     private final Random random;
     private final String name;
+    /** Full code takes the Model long, so few runs begin with it. */
+    private final boolean full;
     private final OrielChart x = new OrielChart();
     private final Model m = new Model();
 
     private ModelTest(int run) {
         random = new Random(run);
         name = "run " + run + ": ";
+        full = run % 40 == 0;
     }
 
     public static void main(String[] args) {
@@ -23,7 +26,7 @@ public final class ModelTest {
     }
 
     private void run() {
-        fill(random.nextInt(41), random.nextInt(4));
+        fill(random.nextInt(41), full ? 4 : random.nextInt(4));
         compareAll();
         for (int call = 0; call < CALLS && Check.wrongSoFar() == 0; call++) {
             change();
@@ -34,8 +37,12 @@ public final class ModelTest {
         compareAll();
     }
 
-    /** Writes code at first, of mixed kinds, of many IFs, of many jumps ahead, or of short ones. */
-    private void fill(int size, int style) {
+    /**
+     * Writes code at first: of mixed kinds, of many IFs, of many jumps ahead, of short ones, or full
+     * and of IFs alone, so that there are as many layers as can be.
+     */
+    private void fill(int some, int style) {
+        int size = style == 4 ? 40 : some;
         for (int i = 0; i < size; i++) {
             int kind = kind(style);
             Check.same(name + "insert", x.insert(i, kind, 0), m.insert(i, kind, 0));
@@ -54,6 +61,9 @@ public final class ModelTest {
 
     private int kind(int style) {
         int r = random.nextInt(20);
+        if (style == 4) {
+            return 1;
+        }
         if (style == 0) {
             return r % 4;
         }
