@@ -1,6 +1,8 @@
 /** Counts the answers that are not as due; made for tests with a main method. */
 final class Check {
     private static int wrong = 0;
+    private static int made = 0;
+    private static String about = "";
 
     private Check() {}
 
@@ -9,24 +11,28 @@ final class Check {
     }
 
     static void same(String what, long got, long due) {
+        made++;
         if (got != due) {
             miss(what + ": answered " + got + ", due is " + due);
         }
     }
 
     static void same(String what, boolean got, boolean due) {
+        made++;
         if (got != due) {
             miss(what + ": answered " + got + ", due is " + due);
         }
     }
 
     static void same(String what, double got, double due) {
+        made++;
         if (got != due) {
             miss(what + ": answered " + got + ", due is " + due);
         }
     }
 
     static void same(String what, String got, String due) {
+        made++;
         if (!got.equals(due)) {
             miss(what + ": answered " + got + ", due is " + due);
         }
@@ -34,6 +40,7 @@ final class Check {
 
     /** The class must be the very one, since a caller may tell its sub-classes apart. */
     static void refuses(String what, Class<?> due, Call call) {
+        made++;
         try {
             call.run();
         } catch (RuntimeException e) {
@@ -68,10 +75,19 @@ final class Check {
         return wrong;
     }
 
-    private static void miss(String text) {
+    static int madeSoFar() {
+        return made;
+    }
+
+    /** Tells what the checks from now on are about; each answer that is not as due tells it, too. */
+    static void isAbout(String words) {
+        about = words;
+    }
+
+    static void miss(String text) {
         wrong++;
         if (wrong <= 50) {
-            System.out.println(text);
+            System.out.println(about.isEmpty() ? text : "[" + about + "] " + text);
         }
     }
 
@@ -140,8 +156,48 @@ final class Check {
         return text.toString();
     }
 
+    /** All that one can ask for without changing anything, so that two drawings can be compared. */
+    static String all(OrielChart x) {
+        StringBuilder text = new StringBuilder(code(x)).append("; ").append(edges(x));
+        text.append("; ").append(row(x.blocks(), x::firstOf));
+        for (int one = 0; one < x.blocks(); one++) {
+            int d = one;
+            text.append("; ").append(row(x.blocks(), b -> x.dominates(d, b) ? 1 : 0));
+            text.append(", ").append(row(x.blocks(), b -> x.comesBehind(d, b) ? 1 : 0));
+        }
+        text.append("; ").append(row(x.blocks(), x::liveIn)).append("; ").append(x.vain());
+        text.append("; ").append(steps(x)).append("; ").append(row(x.blocks(), x::endsIn));
+        text.append("; ").append(layers(x));
+        for (int edge = 0; edge < x.edges(); edge++) {
+            int e = edge;
+            text.append("; ").append(row(Math.max(0, x.bends(e)), k -> x.bendAt(e, k)));
+        }
+        text.append("; ").append(x.crossings()).append("; ").append(x.wouldCross(1));
+        text.append("; ").append(x.swept()).append("; ").append(x.meanLength());
+        return text.append("; ").append(x.digest()).toString();
+    }
+
     interface Ask {
         long of(int number);
+    }
+
+    /** 0 to many - 1 are answered; one ahead, one behind, and the ends of all numbers are refused. */
+    static void bounds(String what, int many, Ask ask) {
+        for (int k = 0; k < many; k++) {
+            answers(what + " of " + k, ask, k);
+        }
+        for (int k : new int[] {-1, many, Integer.MIN_VALUE, Integer.MAX_VALUE}) {
+            noPlace(what + " of " + k, () -> ask.of(k));
+        }
+    }
+
+    private static void answers(String what, Ask ask, int number) {
+        made++;
+        try {
+            ask.of(number);
+        } catch (RuntimeException e) {
+            miss(what + ": throws " + e.getClass().getName() + ", due is an answer");
+        }
     }
 
     /** The answers of a call for 0, 1, 2 and so on, with spaces between. */

@@ -210,15 +210,15 @@ public final class DrawingTest {
     private static void digest() {
         Check.same("digest() of none", new OrielChart().digest(), -6562806086967277532L);
         for (String code : new String[] {"P", "G0", CROSSED, "P I6 P I2 G1 P S", "I2 G2 I1 S"}) {
+            // Asked first, so that it may not lean on what other calls have worked out.
             OrielChart x = Check.chart(code);
             x.setUse(0, 1, 6);
-            // Asked first, so that it may not lean on what other calls have worked out.
-            long got = x.digest();
-            Check.same(code + ": digest()", got, sum(x));
-            x.sweep(3);
-            Check.same(code + ": digest() after sweep(3)", x.digest(), sum(x));
-            x.setUse(0, 1, 0);
-            Check.same(code + ": digest() after setUse()", x.digest(), sum(x));
+            Check.same(code + ": digest()", x.digest(), sum(x));
+            OrielChart y = Check.chart(code);
+            y.sweep(3);
+            Check.same(code + ": digest() after sweep(3)", y.digest(), sum(y));
+            y.setUse(0, 1, 6);
+            Check.same(code + ": digest() after setUse()", y.digest(), sum(y));
         }
     }
 

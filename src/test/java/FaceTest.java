@@ -98,7 +98,8 @@ public final class FaceTest {
         Check.same("methods", String.join("\n", got), String.join("\n", due));
         for (Class<?> inside : face.getDeclaredClasses()) {
             for (Method m : inside.getDeclaredMethods()) {
-                Check.same("no namesake inside: " + m, names.contains(m.getName()), false);
+                boolean hidden = Modifier.isPrivate(m.getModifiers());
+                Check.same("no private namesake: " + m, hidden && names.contains(m.getName()), false);
             }
         }
     }

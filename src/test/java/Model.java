@@ -36,6 +36,14 @@ final class Model {
         renew();
     }
 
+    /** Code that is there from the first: each instruction with its kind and its target. */
+    Model(int[][] instructions) {
+        for (int[] i : instructions) {
+            code.add(new int[] {i[0], i[1], -1, 0});
+        }
+        renew();
+    }
+
     // ---- code
 
     int insert(int place, int kind, int target) {
