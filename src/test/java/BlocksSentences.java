@@ -136,6 +136,10 @@ final class BlocksSentences {
         document.says("2. Blocks", "EDGES are numbered from 0:", () -> {
             Check.same("edgeFrom(0)", x.edgeFrom(0), 0);
             Check.same("edgeTo(0)", x.edgeTo(0), -1);
+            OrielChart y = Check.chart("G2 S G1");
+            Check.same("edgeFrom", Check.row(3, y::edgeFrom), "0 1 2");
+            Check.same("edgeTo", Check.row(3, y::edgeTo), "2 -1 1");
+            Check.noPlace("edgeTo(3) of three", () -> y.edgeTo(3));
         });
 
         document.says("2. Blocks", "by the BLOCKS from which they go, the next one first.", () -> {
