@@ -951,18 +951,17 @@ public final class OrielChart {
                 put(next, a, out & ~bit(a));
                 return;
             }
+            long members = bit(a) | out;
             if (found == SINGLE) {
                 int b = lowest(out);
                 int c = lowest(out & ~bit(b));
-                merge(bit(a) | bit(isSingle(a, b, c) ? b : c), false);
-                return;
+                members &= ~bit(isSingle(a, b, c) ? c : b);
             }
             boolean circles = found == ROW && has(at(next, lowest(out)), a);
-            merge(bit(a) | out, circles);
+            merge(members, lowest(members), circles);
         }
 
-        private void merge(long members, boolean circles) {
-            int name = lowest(members);
+        private void merge(long members, int name, boolean circles) {
             long out = 0L;
             for (int n = 0; n < MOST; n++) {
                 if (has(members, n)) {
