@@ -973,7 +973,7 @@ public final class OrielChart {
             nodes = nodes & ~members | bit(name);
             for (int n = 0; n < MOST; n++) {
                 long goals = at(next, n);
-                if (n != name && (goals & members) != 0L) {
+                if ((goals & members) != 0L) {
                     put(next, n, goals & ~members | bit(name));
                 }
                 int old = at(home, n);
